@@ -332,6 +332,11 @@ public final class ShardRing {
         return low;
     }
 
+    private static int rowWith(int[] ascending, int length, int sought) {
+        int i = firstNotBelow(ascending, length, sought);
+        return i < length && i < ascending.length && ascending[i] == sought ? i : NONE;
+    }
+
     /** Opens a gap at a row, the rows behind it moving up by one; there must be room for it. */
     private static void openGap(int[] rows, int length, int at) {
         System.arraycopy(rows, at, rows, at + 1, length - at);
@@ -413,8 +418,7 @@ public final class ShardRing {
         int length = 0;
 
         int rowOf(int key) {
-            int i = firstNotBelow(keys, length, key);
-            return i < length && keys[i] == key ? i : NONE;
+            return rowWith(keys, length, key);
         }
 
         boolean has(int key) {
@@ -489,8 +493,7 @@ public final class ShardRing {
         }
 
         int rowOf(int key) {
-            int i = firstNotBelow(keys, length, key);
-            return i < length && keys[i] == key ? i : NONE;
+            return rowWith(keys, length, key);
         }
 
         int copiedRow(int key) {

@@ -29,6 +29,7 @@ public final class PromisesTest {
         get();
         join();
         leave();
+        severalNodes();
         step();
         stepFails();
         fail();
@@ -448,6 +449,58 @@ public final class PromisesTest {
             written true = 0
             leave 1 = 1
             points 1 = 0
+            """);
+    }
+
+    private static void severalNodes() {
+        script("promises 5 and 6, several sources or several targets", """
+            new 3 4
+            put 17 1 = 1
+            put -12..-5 2 = 1
+            put 3 3 = 1
+            join 3 16 = 9
+            home -12 = 1
+            home -11..-9 = 0
+            home -8..-7 = 1
+            home -6 = 0
+            home -5 = 2
+            home 17 = 2
+            home 3 = 1
+            owner -12..-5 = 3
+            # in ascending order, whichever store they are in
+            step = 2 3 4
+            state -12 = 4
+            state -11 = 1
+            step = 2 3 4
+            state -11 = 4
+            step = 2 3 4 2 3 4
+            state -9 = 4
+            state -8 = 1
+            step = 2 3 4 2 3 4 2 3 4 2 3 4
+            state -5 = 4
+            state 17 = 1
+            step = 2 3 4 0
+            size 3 = 9
+            size 0 = 0
+            size 1 = 1
+            size 2 = 0
+            get -12..-5 = 2
+            get 17 = 1
+            new 3 4
+            put 3..5 7 = 1
+            put 11..13 8 = 1
+            size 1 = 6
+            leave 1 = 6
+            step = 2 3 4 2 3 4 2 3 4 2 3 4 2 3 4 2 3 4 0
+            size 1 = 0
+            key 0 0 = 3
+            key 0 1 = 5
+            key 0 2 = 11
+            key 0 3 = 13
+            key 2 0 = 4
+            key 2 1 = 12
+            get 3..5 = 7
+            get 11..13 = 8
             """);
     }
 
@@ -996,6 +1049,7 @@ public final class PromisesTest {
             share 8 = OUT
             new 1 16
             share 0 = 2147483648
+            share 1..7 = 0
             new 8 1
             share 0 = 205751429
             share 1 = 205751429
