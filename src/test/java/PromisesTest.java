@@ -1,23 +1,11 @@
 /**
- * For each promise its ordinary answers, its edges and its wrong inputs, as scripts.
- *
- * A line is a call, " = " and the answer that is due; several answers mean the call made again
- * for each of them; a first argument a..b means a call for each number from a to b. "new" makes
- * the object for the lines behind it, and a line that begins with # says why.
+ * For each promise its ordinary answers, its edges and its wrong inputs, as {@link Scripts}.
  *
  * Used all over: with the members 0 and 1 of a point each, the keys -1, 0 and 8 belong to node 0
- * and 1 to 7 to node 1; with node 2 of a point too, 1, 2, 4, 5 and 6 belong to that one.
+ * and 1 to 7 to node 1; with node 2 of a point too, 1, 2 and 4 to 7 belong to that one.
  */
 public final class PromisesTest {
-    private static final String ISE = "throws.IllegalStateException";
-    private static final String IAE = "throws.IllegalArgumentException";
-    private static final String OUT = "throws.IndexOutOfBoundsException";
-    private static final String NOT_THERE = "throws.NoSuchElementException";
-
-    private static final Calls REAL = new Calls(ShardRing.class);
-    private static final Calls MODEL = new Calls(Model.class);
-    private static int wrong = 0;
-    private static int calls = 0;
+    private static final Scripts SCRIPTS = new Scripts("PromisesTest");
 
     private PromisesTest() { }
 
@@ -46,14 +34,11 @@ public final class PromisesTest {
         count();
         written();
         share();
-        System.out.println("PromisesTest: " + calls + " calls, " + wrong + " answers not as due");
-        if (wrong != 0) {
-            System.exit(1);
-        }
+        SCRIPTS.end();
     }
 
     private static void newObject() {
-        script("promise 1, a new object", """
+        SCRIPTS.run("promise 1, a new object", """
             new 3 4
             points 0..2 = 4
             points 3..7 = 0
@@ -91,7 +76,7 @@ public final class PromisesTest {
     }
 
     private static void put() {
-        script("promise 2, put", """
+        SCRIPTS.run("promise 2, put", """
             new 1 1
             put 1 10 = 1
             put 1 11 = 0
@@ -143,7 +128,7 @@ public final class PromisesTest {
     }
 
     private static void putWithPlan() {
-        script("promise 2, put with a plan", """
+        SCRIPTS.run("promise 2, put with a plan", """
             new 1 1
             put 0..3 7 = 1
             join 1 1 = 3
@@ -228,7 +213,7 @@ public final class PromisesTest {
     }
 
     private static void remove() {
-        script("promise 3, remove", """
+        SCRIPTS.run("promise 3, remove", """
             new 1 1
             remove 1 = 0
             written false = 0
@@ -303,7 +288,7 @@ public final class PromisesTest {
     }
 
     private static void get() {
-        script("promise 4, get", """
+        SCRIPTS.run("promise 4, get", """
             new 2 1
             get 1 = NOT_THERE
             put 1 -5 = 1
@@ -337,7 +322,7 @@ public final class PromisesTest {
     }
 
     private static void join() {
-        script("promise 5, join", """
+        SCRIPTS.run("promise 5, join", """
             new 1 1
             put 0..8 7 = 1
             join 0 1 = ISE
@@ -404,7 +389,7 @@ public final class PromisesTest {
     }
 
     private static void leave() {
-        script("promise 6, leave", """
+        SCRIPTS.run("promise 6, leave", """
             new 1 16
             leave 0 = ISE
             leave 1 = ISE
@@ -453,7 +438,7 @@ public final class PromisesTest {
     }
 
     private static void severalNodes() {
-        script("promises 5 and 6, several sources or several targets", """
+        SCRIPTS.run("promises 5 and 6, several sources or several targets", """
             new 3 4
             put 17 1 = 1
             put -12..-5 2 = 1
@@ -505,7 +490,7 @@ public final class PromisesTest {
     }
 
     private static void step() {
-        script("promise 7, step", """
+        SCRIPTS.run("promise 7, step", """
             new 1 1
             step = ISE
             put 1 7 = 1
@@ -571,7 +556,7 @@ public final class PromisesTest {
     }
 
     private static void stepFails() {
-        script("promise 7, step, and the power fails", """
+        SCRIPTS.run("promise 7, step, and the power fails", """
             new 1 1
             put 1 7 = 1
             put 2 8 = 1
@@ -618,7 +603,7 @@ public final class PromisesTest {
     }
 
     private static void fail() {
-        script("promise 8, fail", """
+        SCRIPTS.run("promise 8, fail", """
             new 1 1
             fail -2 = IAE
             fail -2147483648 = IAE
@@ -659,7 +644,7 @@ public final class PromisesTest {
     }
 
     private static void recover() {
-        script("promise 9, recover", """
+        SCRIPTS.run("promise 9, recover", """
             new 1 1
             recover = ISE
             fail 0 = null
@@ -708,7 +693,7 @@ public final class PromisesTest {
     }
 
     private static void off() {
-        script("promise 10, off", """
+        SCRIPTS.run("promise 10, off", """
             new 1 1
             off = false
             fail 0 = null
@@ -721,7 +706,7 @@ public final class PromisesTest {
     }
 
     private static void place() {
-        script("promise 11, place", """
+        SCRIPTS.run("promise 11, place", """
             new 1 1
             place 0 = 0
             place 1 = 1327217884
@@ -741,7 +726,7 @@ public final class PromisesTest {
     }
 
     private static void owner() {
-        script("promise 12, owner", """
+        SCRIPTS.run("promise 12, owner", """
             new 8 1
             # a key just at a point, and one just above it
             owner -1411926866 = 7
@@ -781,7 +766,7 @@ public final class PromisesTest {
     }
 
     private static void home() {
-        script("promise 13, home", """
+        SCRIPTS.run("promise 13, home", """
             new 1 1
             home 1 = 0
             put 1 7 = 1
@@ -809,7 +794,7 @@ public final class PromisesTest {
     }
 
     private static void state() {
-        script("promise 14, state", """
+        SCRIPTS.run("promise 14, state", """
             new 1 1
             put 1..2 7 = 1
             state 1 = 0
@@ -841,7 +826,7 @@ public final class PromisesTest {
     }
 
     private static void holds() {
-        script("promise 15, holds", """
+        SCRIPTS.run("promise 15, holds", """
             new 2 1
             holds 0..7 1 = false
             put 1 7 = 1
@@ -867,7 +852,7 @@ public final class PromisesTest {
     }
 
     private static void size() {
-        script("promise 16, size", """
+        SCRIPTS.run("promise 16, size", """
             new 2 1
             put 0..8 7 = 1
             size 0 = 2
@@ -895,7 +880,7 @@ public final class PromisesTest {
     }
 
     private static void key() {
-        script("promise 17, key", """
+        SCRIPTS.run("promise 17, key", """
             new 1 1
             key 0 0 = OUT
             put 5 0 = 1
@@ -928,7 +913,7 @@ public final class PromisesTest {
     }
 
     private static void points() {
-        script("promise 18, points", """
+        SCRIPTS.run("promise 18, points", """
             new 2 5
             points 0..1 = 5
             points 2..7 = 0
@@ -955,7 +940,7 @@ public final class PromisesTest {
     }
 
     private static void count() {
-        script("promise 19, count", """
+        SCRIPTS.run("promise 19, count", """
             new 1 1
             count 0 = 0
             count 1..2 = -1
@@ -1003,7 +988,7 @@ public final class PromisesTest {
     }
 
     private static void written() {
-        script("promise 20, written", """
+        SCRIPTS.run("promise 20, written", """
             new 1 1
             written false = 0
             put 1 7 = 1
@@ -1041,7 +1026,7 @@ public final class PromisesTest {
     }
 
     private static void share() {
-        script("promise 21, share", """
+        SCRIPTS.run("promise 21, share", """
             new 1 1
             share 0 = 2147483648
             share 1..7 = 0
@@ -1071,65 +1056,5 @@ public final class PromisesTest {
             recover = 0
             share 7 = 1135064472
             """);
-    }
-
-    private static void script(String name, String text) {
-        Object[] objects = new Object[2];
-        for (String line : text.split("\n")) {
-            if (line.startsWith("#") || line.isBlank()) {
-                continue;
-            }
-            String[] sides = line.split(" = ");
-            String[] words = sides[0].split(" ");
-            if (words[0].equals("new")) {
-                objects[0] = new ShardRing(Integer.parseInt(words[1]), Integer.parseInt(words[2]));
-                objects[1] = new Model(Integer.parseInt(words[1]), Integer.parseInt(words[2]));
-                continue;
-            }
-            for (String due : sides[1].split(" ")) {
-                callsOfLine(name, words, longName(due), objects);
-            }
-        }
-    }
-
-    private static void callsOfLine(String name, String[] words, String due, Object[] objects) {
-        String[] arguments = java.util.Arrays.copyOfRange(words, 1, words.length);
-        int range = arguments.length == 0 ? -1 : arguments[0].indexOf("..");
-        if (range < 0) {
-            compare(name, words[0], arguments, due, objects);
-            return;
-        }
-        int first = Integer.parseInt(arguments[0].substring(0, range));
-        int last = Integer.parseInt(arguments[0].substring(range + 2));
-        for (int i = first; i <= last; i++) {
-            arguments[0] = String.valueOf(i);
-            compare(name, words[0], arguments, due, objects);
-        }
-    }
-
-    // The model is held to the scripts too, since the other test trusts it.
-    private static void compare(String name, String call, String[] arguments, String due, Object[] objects) {
-        calls++;
-        String shown = name + ": " + call + "(" + String.join(", ", arguments) + ")";
-        String real = REAL.answer(objects[0], call, arguments);
-        if (!real.equals(due)) {
-            wrong++;
-            System.out.println(shown + " answered " + real + ", due is " + due);
-        }
-        String model = MODEL.answer(objects[1], call, arguments);
-        if (!model.equals(due)) {
-            wrong++;
-            System.out.println(shown + " of the model answered " + model + ", due is " + due);
-        }
-    }
-
-    private static String longName(String due) {
-        switch (due) {
-            case "ISE": return ISE;
-            case "IAE": return IAE;
-            case "OUT": return OUT;
-            case "NOT_THERE": return NOT_THERE;
-            default: return due;
-        }
     }
 }
