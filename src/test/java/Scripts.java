@@ -135,8 +135,9 @@ final class Scripts {
         requireCallsLeft(number);
     }
 
-    // All that can be seen; without power again behind a recovery. Then writes until a failure that
-    // was told comes, then a failure anyway: so what is told and what is only known shows too.
+    // What can be seen of all nodes and of some keys; behind a recovery, if the power is off; then
+    // writes, until a failure that was told comes, and a failure anyway: so it shows too what is
+    // told and what is only known.
     private static List<String[]> restFor(String[] call) {
         List<String> keys = new ArrayList<>(List.of("1", "2"));
         keys.add(call.length > 1 && !call[0].equals("written") ? call[1] : "0");
