@@ -1,9 +1,9 @@
+import java.util.Arrays;
 import java.util.Random;
 import java.util.Set;
 
 /** Runs of calls drawn from fixed seeds: each answer must be the model's. */
 public final class AgainstModelTest {
-    private static final int CALLS_OF_AN_OBJECT = 512;
     private static final int RUNS = 1500;
     private static final int[] EDGES = {
         Integer.MIN_VALUE, Integer.MIN_VALUE + 1, -2, -1, 0, 1, 7, 8, 9, 16, 17, 255, 256,
@@ -13,94 +13,67 @@ public final class AgainstModelTest {
         "throws.IllegalStateException", "throws.IllegalArgumentException",
         "throws.IndexOutOfBoundsException", "throws.NoSuchElementException");
 
-    private static final Calls REAL = new Calls(ShardRing.class);
-    private static final Calls MODEL = new Calls(Model.class);
-    private static int wrong = 0;
-    private static int calls = 0;
-
     private final Random random;
     private final int keyRange;
-    private final Object real;
-    private final Object model;
-    private final StringBuilder told = new StringBuilder();
-    private int made = 0;
-    private boolean counted = true;
 
     private AgainstModelTest(int seed, int keyRange) {
         this.random = new Random(seed);
         this.keyRange = keyRange;
-        int nodes = random.nextInt(10);
-        int points = random.nextInt(3) == 0 ? random.nextInt(19) : 1 + random.nextInt(3);
-        this.real = new ShardRing(nodes, points);
-        this.model = new Model(nodes, points);
-        told.append("new ").append(nodes).append(' ').append(points);
     }
 
     public static void main(String[] args) {
-        for (int seed = 0; seed < RUNS && wrong < 5; seed++) {
+        for (int seed = 0; seed < RUNS && Pair.answersNotAsDue() < 5; seed++) {
             boolean full = seed % 5 == 0;
             AgainstModelTest run = new AgainstModelTest(seed, full ? 262 : 1 + seed % 40);
-            if (full) {
-                run.fill(250 + seed % 9);
-            }
-            run.go();
+            run.compare(full ? 250 + seed % 9 : 0);
         }
-        longRunsNeverBreak();
-        System.out.println("AgainstModelTest: " + calls + " calls, " + wrong + " answers not as due");
-        if (wrong != 0) {
+        int broken = callsThatBreak();
+        System.out.println("AgainstModelTest: " + Pair.callsAsked() + " calls, " + Pair.answersNotAsDue()
+            + " answers not as due; behind the 512th call " + broken + " broke");
+        if (Pair.answersNotAsDue() + broken != 0) {
             System.exit(1);
         }
     }
 
     // What is answered behind the 512th call is free, but the machine must not throw there.
-    private static void longRunsNeverBreak() {
+    private static int callsThatBreak() {
+        Calls real = new Calls(ShardRing.class);
+        int broken = 0;
         for (int seed = 0; seed < 20; seed++) {
             AgainstModelTest run = new AgainstModelTest(-1 - seed, 300);
-            run.counted = false;
+            ShardRing object = new ShardRing(run.drawNodes(), run.drawPoints());
             for (int i = 0; i < 20000; i++) {
-                String[] call = run.draw();
-                String answer = REAL.answer(run.real, call[0], arguments(call));
+                String[] call = run.draw(object.off());
+                String answer = real.answer(object, call[0], Arrays.copyOfRange(call, 1, call.length));
                 if (answer.startsWith("throws.") && !FACE_EXCEPTIONS.contains(answer)) {
-                    wrong++;
+                    broken++;
                     System.out.println("long run " + seed + ": " + String.join(" ", call) + " " + answer);
                 }
             }
         }
+        return broken;
     }
 
-    private void fill(int keys) {
-        for (int key = 0; key < keys; key++) {
-            compare("put", String.valueOf(key), String.valueOf(key));
+    private void compare(int keysAtFirst) {
+        Pair pair = new Pair(drawNodes(), drawPoints());
+        for (int key = 0; key < keysAtFirst; key++) {
+            pair.ask(call("put", key, key));
         }
-        made = keys;
-    }
-
-    private void go() {
-        boolean agrees = true;
-        for (; made < CALLS_OF_AN_OBJECT && agrees; made++) {
-            agrees = compare(draw());
+        while (pair.agrees() && pair.callsLeft() > 0) {
+            pair.ask(draw(pair.model.off()));
         }
     }
 
-    private boolean compare(String... call) {
-        calls++;
-        String due = MODEL.answer(model, call[0], arguments(call));
-        String got = REAL.answer(real, call[0], arguments(call));
-        told.append("\n").append(String.join(" ", call)).append(" = ").append(due);
-        if (got.equals(due)) {
-            return true;
-        }
-        wrong++;
-        System.out.println(told + " but answered " + got);
-        return false;
+    private int drawNodes() {
+        return random.nextInt(10);
     }
 
-    private static String[] arguments(String[] call) {
-        return java.util.Arrays.copyOfRange(call, 1, call.length);
+    private int drawPoints() {
+        return random.nextInt(3) == 0 ? random.nextInt(19) : 1 + random.nextInt(3);
     }
 
-    private String[] draw() {
-        if (random.nextInt(3) == 0 && isOff()) {
+    private String[] draw(boolean isOff) {
+        if (isOff && random.nextInt(3) == 0) {
             return call("recover");
         }
         int drawn = random.nextInt(100);
@@ -123,11 +96,6 @@ public final class AgainstModelTest {
             return call("fail", random.nextInt(5) == 0 ? edge() : random.nextInt(6) - 1);
         }
         return drawQuestion(drawn);
-    }
-
-    // The drawing must not use up the real object's calls where they are counted.
-    private boolean isOff() {
-        return counted ? MODEL.answer(model, "off").equals("true") : REAL.answer(real, "off").equals("true");
     }
 
     private String[] drawQuestion(int drawn) {

@@ -5,9 +5,11 @@ import java.util.Map;
 
 /** Makes a call told as words ("put", "1", "7") on an object, and tells its answer as a text. */
 final class Calls {
+    private final String thrower;
     private final Map<String, Method> methods = new HashMap<>();
 
     Calls(Class<?> face) {
+        thrower = face.getName();
         for (Method method : face.getDeclaredMethods()) {
             if (java.lang.reflect.Modifier.isPublic(method.getModifiers())) {
                 method.setAccessible(true);
@@ -16,7 +18,6 @@ final class Calls {
         }
     }
 
-    /** An exception is told by its very class, so that one which the machine throws shows. */
     String answer(Object object, String name, String... words) {
         Method method = methods.get(name);
         if (method == null || method.getParameterCount() != words.length) {
@@ -29,10 +30,19 @@ final class Calls {
         try {
             return String.valueOf(method.invoke(object, arguments));
         } catch (InvocationTargetException thrown) {
-            return "throws." + thrown.getCause().getClass().getSimpleName();
+            return told(thrown.getCause());
         } catch (IllegalAccessException impossible) {
             throw new IllegalStateException(impossible);
         }
+    }
+
+    // By its very class, and by where it came from: so one shows which the machine or the library
+    // threw, even if its name is one of the document's.
+    private String told(Throwable thrown) {
+        StackTraceElement[] trace = thrown.getStackTrace();
+        String name = "throws." + thrown.getClass().getSimpleName();
+        boolean own = trace.length > 0 && trace[0].getClassName().startsWith(thrower);
+        return own ? name : name + " (not by a throw of " + thrower + ")";
     }
 
     private static Object argument(Class<?> type, String word) {

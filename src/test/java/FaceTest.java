@@ -10,7 +10,7 @@ import java.util.List;
 import java.util.Set;
 import java.util.TreeSet;
 
-/** The class shows the document's face, and nothing beside it. */
+/** The class shows the document's face, and nothing beside it; inside it keeps to LANGUAGE.md's numbers. */
 public final class FaceTest {
     private static final String FACE = """
         NONE int -1
@@ -112,11 +112,37 @@ public final class FaceTest {
             }
         }
         classes.add(ShardRing.class);
+        if (classes.size() > 12) {
+            faults.add("more than twelve classes");
+        }
         for (Class<?> each : classes) {
+            faults.addAll(sizeFaults(each));
             for (Method method : each.getDeclaredMethods()) {
                 if (!Modifier.isPublic(method.getModifiers()) && publicNames.contains(method.getName())) {
                     faults.add("a method inside bears a public name: " + method.getName());
                 }
+            }
+        }
+        return faults;
+    }
+
+    /** What LANGUAGE.md says in its rules 5 and 11 and can be seen from outside. */
+    private static List<String> sizeFaults(Class<?> each) {
+        List<String> faults = new ArrayList<>();
+        int fields = 0;
+        for (Field field : each.getDeclaredFields()) {
+            boolean isStatic = Modifier.isStatic(field.getModifiers());
+            if (isStatic && !Modifier.isFinal(field.getModifiers())) {
+                faults.add("static, but not final: " + field);
+            }
+            fields += isStatic ? 0 : 1;
+        }
+        if (fields > 20) {
+            faults.add("more than twenty fields: " + each.getSimpleName());
+        }
+        for (Method method : each.getDeclaredMethods()) {
+            if (method.getParameterCount() > 7) {
+                faults.add("more than seven parameters: " + method);
             }
         }
         return faults;

@@ -255,6 +255,19 @@ public final class Model {
         return sum;
     }
 
+    /** The key that a step would look at, or null; for tests that must know where things stand. */
+    Integer keyAtStep() {
+        if (plan == null || off) {
+            return null;
+        }
+        for (int key : plan.keySet()) {
+            if (states.get(key) != 4) {
+                return key;
+            }
+        }
+        return null;
+    }
+
     private void power() {
         if (off) {
             throw new IllegalStateException();

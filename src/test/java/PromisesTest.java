@@ -34,6 +34,7 @@ public final class PromisesTest {
         count();
         written();
         share();
+        readme();
         SCRIPTS.end();
     }
 
@@ -1055,6 +1056,25 @@ public final class PromisesTest {
             share 8 = OUT
             recover = 0
             share 7 = 1135064472
+            """);
+    }
+
+    private static void readme() {
+        SCRIPTS.run("README.md, the example", """
+            new 2 4
+            put 7 70 = 1
+            join 2 4 = 1
+            count 1 = 1
+            step = 2 3 4
+            count 1 = 0
+            step = 0
+            count 1 = -1
+            get 7 = 70
+            fail 0 = null
+            put 7 71 = -9
+            off = true
+            recover = -1
+            get 7 = 70
             """);
     }
 }

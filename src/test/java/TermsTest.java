@@ -20,6 +20,8 @@ public final class TermsTest {
         nodesAndPoints();
         owners();
         keysAndValues();
+        stores();
+        fullestStores();
         plans();
         homes();
         writes();
@@ -244,6 +246,115 @@ public final class TermsTest {
             """);
     }
 
+    private static void stores() {
+        run("Each node has a STORE", """
+            new 2 1
+            put 8 80 = 1
+            put 1 10 = 1
+            put 3 30 = 1
+            size 0 = 1
+            size 1 = 2
+            size 2..7 = 0
+            holds 0 8 = true
+            holds 1..7 8 = false
+            holds 0 1 = false
+            holds 1 1 = true
+            holds 2..7 1 = false
+            """);
+        run("a value for each key that is in it", """
+            new 1 1
+            put 5 50 = 1
+            put 1 10 = 1
+            put 9 90 = 1
+            put 3 30 = 1
+            put 7 70 = 1
+            get 1 = 10
+            get 3 = 30
+            get 5 = 50
+            get 7 = 70
+            get 9 = 90
+            """);
+        run("A WRITE makes one key's value in one store another one (or takes it off)", """
+            new 1 1
+            put 5 50 = 1
+            put 1 10 = 1
+            put 9 90 = 1
+            put 5 51 = 0
+            get 1 = 10
+            get 5 = 51
+            get 9 = 90
+            remove 5 = 1
+            get 1 = 10
+            get 9 = 90
+            # the others' values stay while keys move too
+            put 2 20 = 1
+            put 3 30 = 1
+            put 8 80 = 1
+            join 1 1 = 4
+            """ + """
+            step = 2 3 4
+            get 1 = 10
+            get 2 = 20
+            get 3 = 30
+            get 8 = 80
+            get 9 = 90
+            """.repeat(4) + """
+            step = 0
+            get 1 = 10
+            get 2 = 20
+            get 3 = 30
+            get 8 = 80
+            get 9 = 90
+            """);
+    }
+
+    // One key more than can be there: an older value that no home tells of stands beside them.
+    private static void fullestStores() {
+        String keys = putsOf(0, 255);
+        String greatest = keys.lines().toList().get(254).split(" ")[1];
+        run("the fullest store: 256 keys that are there, and one still to be taken off", "new 1 1\n" + keys + """
+            put 1 10 = 1
+            join 1 1 = 1
+            step = 2 3
+            remove 1 = 1
+            put -1 11 = 1
+            put -2 12 = ISE
+            count 0 = 256
+            size 0 = 257
+            key 0 0 = -1
+            key 0 1 = 0
+            key 0 2 = 1
+            key 0 257 = OUT
+            get 1 = NOT_THERE
+            get -1 = 11
+            """ + "key 0 256 = " + greatest + "\n" + getsOf(keys, 200) + """
+            step = 4
+            size 0 = 256
+            key 0 2 = 8
+            step = 0
+            """);
+        run("the fullest store: 256 keys that are there, and one lost copy", "new 2 1\n" + keys + """
+            put 1 10 = 1
+            leave 1 = 1
+            step = 2
+            fail 0 = null
+            step = -9
+            recover = 1
+            remove 1 = 1
+            put -1 11 = 1
+            count 0 = 256
+            size 0 = 257
+            key 0 2 = 1
+            key 0 257 = OUT
+            get 1 = NOT_THERE
+            """ + "key 0 256 = " + greatest + "\n" + getsOf(keys, 200) + """
+            step = 2
+            size 0 = 256
+            key 0 2 = 8
+            step = 3 4 0
+            """);
+    }
+
     private static void plans() {
         run("a row of keys, in ascending order", """
             new 1 1
@@ -267,6 +378,62 @@ public final class TermsTest {
             state 2147483647 = 1
             step = 2 3 4
             state 2147483647 = 4
+            """);
+        run("each with a SOURCE (one target, and the higher node's keys before the lower one's)", """
+            new 3 2
+            put 12 120 = 1
+            put 14 140 = 1
+            put 2 20 = 1
+            put 5 50 = 1
+            join 7 9 = 4
+            home 2 = 2
+            home 5 = 2
+            home 12 = 1
+            home 14 = 2
+            owner 12 = 7
+            get 2 = 20
+            get 5 = 50
+            get 12 = 120
+            get 14 = 140
+            step = 2 3 4 2 3 4
+            size 2 = 1
+            size 1 = 1
+            step = 2 3 4
+            size 2 = 1
+            size 1 = 0
+            step = 2 3 4 0
+            size 0..2 = 0
+            size 7 = 4
+            """);
+        run("each with a TARGET (one source)", """
+            new 4 3
+            put 3 30 = 1
+            put 4 40 = 1
+            put 5 50 = 1
+            put 11 110 = 1
+            leave 1 = 4
+            home 3..5 = 1
+            owner 3 = 2
+            owner 4..5 = 3
+            owner 11 = 2
+            step = 2
+            holds 2 3 = true
+            holds 3 3 = false
+            step = 3 4 2
+            holds 2 4 = false
+            holds 3 4 = true
+            # the second write of a COPIED key goes to its own target
+            put 4 41 = 0
+            size 2 = 1
+            size 3 = 1
+            step = 3 4 2 3 4 2 3 4 0
+            size 1 = 0
+            size 2 = 2
+            size 3 = 2
+            get 3 = 30
+            get 4 = 41
+            get 5 = 50
+            get 11 = 110
             """);
         run("those that were there when it was made", """
             new 1 1
@@ -310,7 +477,7 @@ public final class TermsTest {
             step = 0
             state 1 = 0
             """);
-        run("a plan of all the 256 keys that can be there", "new 2 1\n" + putsOfNodeOne(256) + """
+        run("a plan of all the 256 keys that can be there", "new 2 1\n" + putsOf(1, 256) + """
             count 0 = 256
             size 1 = 256
             leave 1 = 256
@@ -324,17 +491,35 @@ public final class TermsTest {
             count 1 = 255
             size 0 = 1
             size 1 = 255
+            step = 2
+            fail 0 = null
+            step = -9
+            recover = 255
+            count 0..1 = 256
+            count 2 = 1
+            step = 4 2 3 4
+            count 1 = 254
             """);
     }
 
-    private static String putsOfNodeOne(int number) {
+    /** Keys from 0 on that belong to a node, of the members 0 and 1 with a point each. */
+    private static String putsOf(int node, int number) {
         StringBuilder lines = new StringBuilder();
         Model ring = new Model(2, 1);
-        for (int key = 1, found = 0; found < number; key++) {
-            if (ring.owner(key) == 1) {
-                lines.append("put ").append(key).append(" 5 = 1\n");
+        for (int key = 0, found = 0; found < number; key++) {
+            if (ring.owner(key) == node) {
+                lines.append("put ").append(key).append(' ').append(3 * key + 1).append(" = 1\n");
                 found++;
             }
+        }
+        return lines.toString();
+    }
+
+    private static String getsOf(String puts, int number) {
+        StringBuilder lines = new StringBuilder();
+        for (String put : puts.lines().limit(number).toList()) {
+            String[] words = put.split(" ");
+            lines.append("get ").append(words[1]).append(" = ").append(words[2]).append('\n');
         }
         return lines.toString();
     }
@@ -421,7 +606,9 @@ public final class TermsTest {
             join 1 1 = 1
             step = 2
             put 1 8 = 0
+            # neither of the two is a record
             written false = 5
+            written true = 1
             step = 3
             get 1 = 8
             """);
@@ -449,6 +636,7 @@ public final class TermsTest {
             step = 2
             remove 1 = 1
             written false = 9
+            written true = 1
             holds 0..1 1 = false
             # FLIPPED, GONE: the target's
             step = 3 4 2 3
